@@ -137,9 +137,6 @@ public final class NotePool {
     int leavesBack = chain.removeLatest();
     for (int j = 0; j < leavesBack; j++) {
       tree.removeLatest();
-      for (int k = 0; k < keyCount; k++) {
-        keys[k].forget(tree.filled);
-      }
     }
     return chain.count;
   }
@@ -308,15 +305,16 @@ public final class NotePool {
       int u = q / FIELD;
       int w = q % FIELD;
       int k = 56 * (x * u % FIELD) % FIELD * (y * w % FIELD) % FIELD;
-      int under = (1 + k) % FIELD;
-      int besides = (1 + FIELD - k) % FIELD;
+      int belowX = (1 + k) % FIELD;
+      int belowY = (1 + FIELD - k) % FIELD;
       // One inverse, of the product, serves both divisions.
-      int inverse = inverse(under * besides % FIELD);
-      int first = (x * w + y * u) % FIELD * (inverse * besides % FIELD) % FIELD;
-      int second = (y * w + x * u) % FIELD * (inverse * under % FIELD) % FIELD;
-      return point(first, second);
+      int inverse = inverse(belowX * belowY % FIELD);
+      int sumX = (x * w + y * u) % FIELD * (inverse * belowY % FIELD) % FIELD;
+      int sumY = (y * w + x * u) % FIELD * (inverse * belowX % FIELD) % FIELD;
+      return point(sumX, sumY);
     }
 
+    /** [n] of any point, for a scalar n. */
     static int multiple(int n, int point) {
       int sum = ZERO;
       int doubled = point;
@@ -455,7 +453,10 @@ public final class NotePool {
     }
   }
 
-  /** A key, with what it knows of the leaves that it finds. */
+  /**
+   * A key, with what it knows of the leaves that it finds. What it keeps of leaves that were taken
+   * back need not be wiped out: only filled leaves are asked for, and each is looked at when filled.
+   */
   private static final class Key {
     int secret;
     int address;
@@ -477,10 +478,6 @@ public final class NotePool {
       values[leaf] = value;
       trapdoors[leaf] = trapdoor;
       nullifiers[leaf] = bases.nullifier(secret, leaf);
-    }
-
-    void forget(int leaf) {
-      found[leaf] = false;
     }
   }
 
